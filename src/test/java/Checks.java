@@ -33,10 +33,6 @@ final class Checks {
         return x;
     }
 
-    static String repeat(String part, int times) {
-        return part.repeat(times);
-    }
-
     /** The SHADES of all ITEMS, as figures. */
     static String shades(BlueByTouch x) {
         StringBuilder all = new StringBuilder();

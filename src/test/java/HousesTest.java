@@ -40,7 +40,12 @@ public final class HousesTest {
         checks.due("new: back()", x.back(), NO);
         checks.due("new: forget()", x.forget(), 0);
         checks.due("new: wipe()", x.wipe(), 0);
-        checks.due("new: from(6, 11)", x.from(6, 11), 64 + 4 + 2 + 1);
+        int[] from = {1 + 2, 1 + 2 + 4, 1 + 2 + 4 + 64, 8 + 32, 16 + 8 + 32, 16 + 8 + 32, 1 + 2 + 4 + 64};
+        for (int i = 0; i < from.length; i++) {
+            checks.due("new: from(" + i + ", 4)", x.from(i, 4), from[i]);
+        }
+        // The HAND of 7 is 6 behind hour 2, 4 by the washing of hour 5, and 3 behind it.
+        checks.due("new: behind(6, 2, 0)", x.behind(6, 2, 0), 3);
     }
 
     private static void write() {
@@ -118,9 +123,9 @@ public final class HousesTest {
         fault("i0,0;i0,0", 5);
         fault("i0,0;i6,0;x", 5);
         fault("i00,0;x", 6);
-        fault(Checks.repeat("i0,0;", 9), NONE);
-        fault(Checks.repeat("i0,0;", 10), 45);
-        fault(Checks.repeat("i0,0;", 9) + "i6,0;", 45);
+        fault("i0,0;".repeat(9), NONE);
+        fault("i0,0;".repeat(10), 45);
+        fault("i0,0;".repeat(9) + "i6,0;", 45);
     }
 
     private static void faultOfTouches() {
@@ -138,8 +143,8 @@ public final class HousesTest {
         fault(two + "t0,0,1,1;", 10);
         fault(two + "t0,0,1", 10);
         fault("i0,0;t0,0,1;i0,0;", 5);
-        fault(two + Checks.repeat("t3,0,1;", 10), NONE);
-        fault(two + Checks.repeat("t3,0,1;", 11), 80);
+        fault(two + "t3,0,1;".repeat(10), NONE);
+        fault(two + "t3,0,1;".repeat(11), 80);
     }
 
     private static void faultOfWashingsAndSupper() {
@@ -154,15 +159,15 @@ public final class HousesTest {
         fault(two + "w0,0,0;", 10);
         fault("i3,0;w0,0;", 5);
         fault("i1,0;i2,0;i5,0;w0,0;w0,1;w0,2;", NONE);
-        fault(two + Checks.repeat("w3,0;", 4), NONE);
-        fault(two + Checks.repeat("w3,0;", 5), 30);
+        fault(two + "w3,0;".repeat(4), NONE);
+        fault(two + "w3,0;".repeat(5), 30);
         fault("s0;", NONE);
         fault("s11;s0;s7;s07;", NONE);
         fault("s12;", 0);
         fault("s;", 0);
         fault("s7,0;", 0);
         fault("s7;s12;", 3);
-        fault(Checks.repeat("s7;", 66), NONE);
+        fault("s7;".repeat(66), NONE);
     }
 
     private static void lay() {

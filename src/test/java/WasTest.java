@@ -118,6 +118,12 @@ public final class WasTest {
         none.show(0, 8);
         checks.due("of no touches, not so", none.order(0), 0);
         checks.due("the told order of none, not so", none.order(1), 0);
+        BlueByTouch told = Checks.house("i0,9;i0,0;i0,0;t5,0,1;t0,1,2;");
+        told.show(2, 7);
+        checks.due("one of two", told.order(0), 1);
+        checks.due("as told in the text, not by hours", told.order(1), 1);
+        told.show(1, 9);
+        checks.due("but not that, too", told.order(1), 0);
         BlueByTouch twice = Checks.house("i0,9;i0,0;i0,0;t0,0,1;t0,0,1;t0,1,2;");
         twice.show(2, 7);
         checks.due("two that are told alike are two", twice.order(0), 4);
