@@ -514,12 +514,13 @@ public final class BlueByTouch {
         /** Answers the place behind the ; that ends them, NONE if they are not so. */
         private int readNumbers(int start) {
             int place = start;
-            for (found = 1; found <= NUMBERS_MOST; found++) {
+            for (int n = 0; n < NUMBERS_MOST; n++) {
                 int figures = figuresAt(place);
                 if (figures == 0) {
                     return NONE;
                 }
-                numbers.put(found - 1, valueOf(place, figures));
+                numbers.put(n, valueOf(place, figures));
+                found = n + 1;
                 place += figures + 1;
                 int end = letterAt(place - 1);
                 if (end == ';') {
