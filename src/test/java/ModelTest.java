@@ -39,7 +39,7 @@ public final class ModelTest {
     private void writeAndLay() {
         due("wipe()", x.wipe(), model.wipe());
         String text = text();
-        for (int p = 0; p < text.length() && calls < CALLS - 10; p++) {
+        for (int p = 0; p < text.length() && calls < CALLS - 40; p++) {
             int letter = text.charAt(p);
             due("write(" + letter + ")", x.write(letter), model.write(letter));
         }
@@ -95,7 +95,7 @@ public final class ModelTest {
     }
 
     private int anItem() {
-        return number(0, x.count(0) - 1);
+        return number(0, model.count(0) - 1);
     }
 
     /** Such that what is SHOWN can well be so. */
@@ -157,7 +157,7 @@ public final class ModelTest {
 
     private void pass(int n) {
         due("pass(" + n + ")", x.pass(n), model.pass(n));
-        for (int i = 0; i < x.count(0); i++) {
+        for (int i = 0; i < model.count(0); i++) {
             item(i, 1);
             item(i, 4);
         }
